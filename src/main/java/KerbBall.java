@@ -818,12 +818,12 @@ public final class KerbBall {
             return sum;
         }
 
-        /** Of 256 cases, in how many one that is d behind is so no longer: his worth by h of 16, the other's by o. */
+        /** Of 256 cases, in how many one that is d behind is so no longer: his points by h of 16, the other's by o. */
         static int casesLevel(int d, int his, int h, int others, int o) {
             int cases = his - others >= d ? h * o : 0;
             cases += his >= d ? h * (16 - o) : 0;
-            cases += -others >= d ? (16 - h) * o : 0;
-            return cases + (0 >= d ? (16 - h) * (16 - o) : 0);
+            // a miss of his against the other one's points never is enough, as d is 0 at least
+            return cases + (d <= 0 ? (16 - h) * (16 - o) : 0);
         }
 
         static int rests(int cases, int ifHeChanges, int ifOtherChanges) {

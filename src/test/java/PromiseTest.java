@@ -208,10 +208,12 @@ public final class PromiseTest {
     private static void faults() {
         String[] texts = {"x;", "stone 6;", "wet 4;", "wet 10;", "wet 1 0;", "wet 1", "wet 1 ", "wet", "wet  ", "we", "  we t 1;",
             "stones 1;", "stone ;", ";", " 1;", "wet 1;;", "wet 1;stone", "Wet 1;", "wet\t1;", "wet#1;", "wet 1#", "stone stone 1;",
-            "wet1wet 2;", "stone 1;  kerb 1;", "wet 1;stone a;", "wetstone 1;", "stone 05;", "wet1 12;", "wet 1;\n", "wet -1;"};
+            "wet1wet 2;", "stone 1;  kerb 1;", "wet 1;stone a;", "wetstone 1;", "stone 05;", "wet1 12;", "wet 1;\n", "wet -1;", "weta 1;",
+            "wetz 1;", "stonea1;", "wet 19;", "wet 09;", "stone 90;", "stone/1;", "wet 1:", "wet`1;", "wet{1;"};
         int[] places = {0, 6, 4, 4, 6, 5, 6, 3, 5, 0, 2,
             0, 6, 0, 1, 6, 11, 0, 3, 3, 5, 6,
-            4, 10, 12, 0, 6, 5, 6, 4};
+            4, 10, 12, 0, 6, 5, 6, 4, 0,
+            0, 0, 4, 4, 6, 5, 5, 3, 3};
         for (int i = 0; i < texts.length; i++) {
             KerbBall x = busy();
             x.clear();
@@ -358,6 +360,8 @@ public final class PromiseTest {
         fraction("14: never", x, x.middle(0, 6, 0), 0, 1);
         fraction("14: at once", x, x.middle(9, 0, 0), 0, 1);
         fraction("14: keeps all", x, x.middle(8, 2, 0), 3, 4);
+        fraction("14: three", x, x.middle(8, 3, 0), 7, 8);
+        fraction("14: four by a quarter", x, x.middle(4, 4, 1), 11, 128);
         fraction("14: loses one", x, x.middle(8, 3, 1), 1, 2);
         fraction("14: loses no more than he has", x, x.middle(8, 2, 6), 1, 2);
         int[][] wrong = {{-1, 1, 1}, {17, 1, 1}, {8, -1, 1}, {8, 7, 1}, {8, 1, -1}, {8, 1, 7}};
@@ -382,7 +386,7 @@ public final class PromiseTest {
             {0, 10, 10, 2, 4, 8, 0}, {10, 10, 10, 2, 4, 8, 256}, {9, 40, 10, 8, 16, 0, 0}, {0, 0, 1, 0, 16, 0, 0},
             {1, 0, 1, 0, 0, 0, 1}, {40, 40, 40, 8, 0, 0, 4294967296L}, {0, 0, 40, 7, 16, 0, 268435456L},
             {0, 0, 40, 6, 16, 0, 0}, {35, 0, 40, 8, 0, 0, 0}, {30, 35, 40, 3, 0, 16, 0}, {35, 35, 40, 3, 0, 16, 4096},
-            {0, 0, 10, 3, 0, 8, 1024}};
+            {0, 0, 10, 3, 0, 8, 1024}, {0, 0, 1, 1, 4, 8, 12}, {4, 4, 5, 3, 4, 8, 3264}};
         for (long[] r : rows) {
             C.same("16: " + java.util.Arrays.toString(r),
                     x.wins((int) r[0], (int) r[1], (int) r[2], (int) r[3], (int) r[4], (int) r[5]), r[6]);
@@ -400,7 +404,7 @@ public final class PromiseTest {
         KerbBall x = busy();
         int[][] rows = {{2, 2, 8, 8, 1, 3, 4}, {1, 1, 8, 8, 0, 1, 2}, {0, 3, 1, 1, 0, 1, 1}, {0, 0, 0, 0, 0, 1, 1},
             {1, 0, 16, 16, 0, 0, 1}, {1, 1, 4, 5, 1, 5, 16}, {1, 1, 5, 4, 0, 5, 16}, {20, 8, 16, 16, 0, 0, 1}, {16, 8, 16, 16, 1, 1, 1},
-            {3, 2, 8, 4, 0, 1, 8}, {3, 2, 16, 4, 0, 1, 4}};
+            {3, 2, 8, 4, 0, 1, 8}, {3, 2, 16, 4, 0, 1, 4}, {2, 2, 8, 0, 0, 1, 4}, {1, 2, 8, 0, 0, 3, 4}, {2, 2, 0, 8, 1, 3, 4}};
         for (int[] r : rows) {
             String what = "17: " + java.util.Arrays.toString(r);
             C.same(what, x.twofold(r[0], r[1], r[2], r[3]), r[4]);
@@ -418,6 +422,8 @@ public final class PromiseTest {
         fraction("18: ten", x, x.cars(10, 3, 5), 3, 2);
         fraction("18: none", x, x.cars(0, 10, 10), 0, 1);
         fraction("18: all", x, x.cars(40, 10, 10), 40, 1);
+        fraction("18: no cars", x, x.cars(5, 0, 5), 0, 1);
+        fraction("18: never he", x, x.cars(5, 5, 0), 0, 1);
         fraction("18: few", x, x.cars(1, 1, 1), 1, 100);
         int[][] wrong = {{-1, 1, 1}, {41, 1, 1}, {1, -1, 1}, {1, 11, 1}, {1, 1, -1}, {1, 1, 11}};
         for (int[] w : wrong) {
@@ -623,15 +629,19 @@ public final class PromiseTest {
         bad("31: 2", x, () -> x.score(2));
         KerbBall y = street(SHARP);
         for (int i = 0; i < 13; i++) {
-            y.play(0, 5, 5, i == 2 ? 12 : 10, 0, 0);
+            // 10, 0, 5, 10, 10, 10, 0, 5, 10, 10, 10, 0, 5 points
+            y.play(0, 5, 5, i == 2 || i == 7 || i == 12 ? 12 : i % 5 == 1 ? 20 : 10, 0, 0);
         }
         C.same("30: 10 at most", y.count(2), 10);
+        int[][] ahead = {{45, 35}, {45, 35}, {35, 35}, {35, 25}, {25, 25}, {25, 20}, {25, 20}, {25, 10}, {15, 10}, {15, 0}};
         for (int i = 0; i < 10; i++) {
             C.same("30: one of them", y.undo(), 1);
+            C.same("30: points of 0, of the last " + i, y.score(0), ahead[i][0]);
+            C.same("30: points of 1, of the last " + i, y.score(1), ahead[i][1]);
         }
         C.same("30: no 11th", y.undo(), -3);
         C.same("30: what was ahead of them", y.score(0), 15);
-        C.same("30: of both", y.score(1), 10);
+        C.same("30: of both", y.score(1), 0);
         C.same("30: who was on", y.on(), 1);
         C.same("29: slips below f 1", y.play(0, 1, 9, 5, -1, 1), 0);
         C.same("29: slips above", y.play(0, 9, 9, 5, 1, 1), 0);
@@ -719,7 +729,11 @@ public final class PromiseTest {
         C.same("38: STATUS is none of it", x.status(7), -1);
         C.same("38: nor are images", x.image(0), 1);
         C.same("38: again", x.digest(), sum(2, 1, 1, 6, 1, SHARP, DOWN, x.score(0), x.score(1), 1, 0, 5, 5, 9, 4, 5, 9, 128));
-        x.wet(0);
+        KerbBall y = street(SHARP);
+        y.play(0, 9, 9, 0, 0, 0);
+        y.play(0, 5, 5, 10, 0, 0);
+        y.play(0, 5, 5, 12, 0, 0);
+        C.same("38: points of both", y.digest(), sum(1, 0, 3, 0, 0, SHARP, 5, 10, 1, 0, 1));
         C.same("38: SLOPED", street(SLOPED).digest(), sum(1, 0, 0, 0, 0, SLOPED, 0, 0, 0, 0, 1));
     }
 
