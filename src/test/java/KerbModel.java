@@ -1,7 +1,9 @@
 import java.math.BigInteger;
 import java.util.ArrayDeque;
 import java.util.ArrayList;
+import java.util.HashMap;
 import java.util.List;
+import java.util.Map;
 
 /** The document once more, written from its words in the slowest and most literal way, to hold the class against. */
 final class KerbModel {
@@ -360,9 +362,17 @@ final class KerbModel {
         return told ? winsFrom(new int[] {a, b}, 0, t, n, c, d) : bad(-100);
     }
 
+    private static final Map<List<Integer>, BigInteger> TWO_FROM = new HashMap<>();
+
     private static BigInteger twoFrom(int d, int k, int p, int q) {
         if (k == 0 || d <= 0) return d <= 0 ? SIXTEEN[k] : BigInteger.ZERO;
-        return pick(d, k, p, 1, q).max(pick(d, k, q, 2, p));
+        List<Integer> asked = List.of(d, k, p, q);
+        BigInteger known = TWO_FROM.get(asked);
+        if (known == null) {
+            known = pick(d, k, p, 1, q).max(pick(d, k, q, 2, p));
+            TWO_FROM.put(asked, known);
+        }
+        return known;
     }
 
     /** One pick: of (cases, points); the other one's cases only go along. */
@@ -405,11 +415,17 @@ final class KerbModel {
 
     /** Deals that many hits to the throws, one throw behind the other: those by which the first ball has a at least. */
     private static long deals(int first, int second, int hits, int need) {
-        if (hits < 0) return 0;
-        if (first == 0 && second == 0) return hits == 0 && need <= 0 ? 1 : 0;
-        if (hits > first + second) return 0;
-        return first > 0 ? deals(first - 1, second, hits - 1, need - 1) + deals(first - 1, second, hits, need)
-                : deals(0, second - 1, hits - 1, need) + deals(0, second - 1, hits, need);
+        // ways[i][j]: so far i hits, j of them of the first ball
+        long[][] ways = new long[26][26];
+        ways[0][0] = 1;
+        for (int t = 0; t < first + second; t++) {
+            for (int i = 24; i >= 0; i--) {
+                for (int j = 24; j >= 0; j--) ways[i + 1][t < first ? j + 1 : j] += ways[i][j];
+            }
+        }
+        long sum = 0;
+        for (int j = need; j <= 25; j++) sum += ways[hits][j];
+        return sum;
     }
 
     int lot(int n, int a, int m, int b) {

@@ -3,7 +3,8 @@ import java.util.function.LongSupplier;
 /** Each promise by answers worked out by hand: ordinary inputs, the edges that the document names, wrong inputs. */
 public final class PromiseTest {
     private static final int WRONG = 0, NOT = 1, TOO_MANY = 2;
-    private static final int SHARP = 0, ROUND = 1, DOWN = 2, WORN = 3, HIGH = 4, SLOPED = 5;
+    private static final int SHARP = Made.SHARP, ROUND = Made.ROUND, DOWN = Made.DOWN, WORN = Made.WORN, HIGH = Made.HIGH,
+            SLOPED = Made.SLOPED;
     private static final Checks C = new Checks("promises");
 
     public static void main(String[] args) {
@@ -40,28 +41,18 @@ public final class PromiseTest {
     // ---- helpers
 
     private static KerbBall street(int... kinds) {
-        KerbBall x = new KerbBall();
-        for (int kind : kinds) {
-            x.stone(kind);
-        }
-        return x;
+        return Made.street(kinds);
     }
 
     /** A street with some of everything, so that a refused call has much to spoil. */
     private static KerbBall busy() {
         KerbBall x = street(SHARP, DOWN);
         x.wet(1);
-        type(x, "wet 2;");
+        Made.type(x, "wet 2;");
         x.write(0, 5, 5, 9, 4, 5);
         x.play(1, 4, 4, 5, 0, 0);
         x.middle(3, 2, 1);
         return x;
-    }
-
-    private static void type(KerbBall x, String s) {
-        for (int i = 0; i < s.length(); i++) {
-            x.type(s.charAt(i), 1);
-        }
     }
 
     private static void refused(String what, KerbBall x, int why, long due, LongSupplier call) {
@@ -171,16 +162,10 @@ public final class PromiseTest {
         C.same("5: all", x.clear(), 120);
     }
 
-    private static long readOf(String s) {
-        KerbBall x = new KerbBall();
-        type(x, s);
-        return x.read();
-    }
-
     private static void read() {
         KerbBall x = busy();
         x.clear();
-        type(x, " stone 5 ;stone0; wet  3;wet 1;stone 4;  ");
+        Made.type(x, " stone 5 ;stone0; wet  3;wet 1;stone 4;  ");
         C.same("6: items", x.read(), 5);
         C.same("6: stones", x.count(0), 3);
         C.same("6: the last wet", x.count(1), 1);
@@ -198,10 +183,10 @@ public final class PromiseTest {
         C.same("6: an empty text", y.read(), 0);
         C.same("6: no stones", y.count(0), 0);
         C.same("6: no wet", y.count(1), 0);
-        C.same("6: blanks alone", readOf("    "), 0);
-        C.same("6: eight stones", readOf("stone0;stone1;stone2;stone3;stone4;stone5;stone0;stone1;wet1;wet0;wet3;"), 11);
-        C.same("6: last kind, last wet", readOf("stone 5;wet 3;"), 2);
-        C.same("6: 24 items", readOf("wet1;wet1;wet1;wet1;wet1;wet1;wet1;wet1;wet1;wet1;wet1;wet1;"
+        C.same("6: blanks alone", Made.readOf("    "), 0);
+        C.same("6: eight stones", Made.readOf("stone0;stone1;stone2;stone3;stone4;stone5;stone0;stone1;wet1;wet0;wet3;"), 11);
+        C.same("6: last kind, last wet", Made.readOf("stone 5;wet 3;"), 2);
+        C.same("6: 24 items", Made.readOf("wet1;wet1;wet1;wet1;wet1;wet1;wet1;wet1;wet1;wet1;wet1;wet1;"
                 + "wet1;wet1;wet1;wet1;wet1;wet1;wet1;wet1;wet1;wet1;wet1;wet1;"), 24);
     }
 
@@ -217,11 +202,11 @@ public final class PromiseTest {
         for (int i = 0; i < texts.length; i++) {
             KerbBall x = busy();
             x.clear();
-            type(x, texts[i]);
+            Made.type(x, texts[i]);
             int place = places[i];
             refused("6: fault of '" + texts[i] + "'", x, -1, -10 - place, () -> x.read());
         }
-        C.same("6: a 9th stone at its word", readOf("stone0;stone1;stone2;stone3;stone4;stone5;stone0;stone1; stone9;"), -67);
+        C.same("6: a 9th stone at its word", Made.readOf("stone0;stone1;stone2;stone3;stone4;stone5;stone0;stone1; stone9;"), -67);
         KerbBall x = new KerbBall();
         x.type(0x776574313bL, 5);
         x.type(0xA0, 1);
