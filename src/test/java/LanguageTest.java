@@ -31,6 +31,7 @@ public final class LanguageTest {
         imports(plain);
         C.isTrue("twelve classes at most", Pattern.compile("\\bclass\\b").matcher(plain).results().count() <= 12);
         methodLengths(plain);
+        madeWithTheObject(plain);
         C.end();
     }
 
@@ -110,6 +111,16 @@ public final class LanguageTest {
             C.isTrue(m.group(), List.of("fill", "copyOf", "copyOfRange", "max", "min", "abs").contains(m.group(2))
                     || m.group().equals("Arrays;"));
         }
+    }
+
+    /** All calls of a run live in one room: what is made is made in a field's own line, none in a call. */
+    private static void madeWithTheObject(String plain) {
+        for (String line : plain.split("\n")) {
+            if (Pattern.compile("\\bnew\\b|\\.clone\\(|copyOf").matcher(line).find()) {
+                C.isTrue("made with the object: " + line.trim(), line.matches(" +(private )?final \\S+ \\w+ = .*;"));
+            }
+        }
+        C.isTrue("no text is joined", !Pattern.compile("\"\\s*\\+|\\+\\s*\"|\\bStringBuilder\\b").matcher(plain).find());
     }
 
     private static void methodLengths(String plain) {
